@@ -53,7 +53,8 @@ public final class FigureTest {
         x.through(1);
         Check.fails("36 no node in the view", BOUNDS, () -> x.cost(0, 1));
         GristGraph y = ofNodes(14);
-        for (int i = 13; i > 0; i--) {
+        // The last edges of the way are the first ones by number.
+        for (int i = 1; i < 14; i++) {
             y.edge(0, i, i - 1, 99);
         }
         Check.same("36 a long way", y.cost(13, 0), 13 * 99);
@@ -87,15 +88,18 @@ public final class FigureTest {
 
     /** The greedy path through the middle has to be taken back. */
     private static void flowsAgainstTheirWay() {
-        GristGraph x = ofNodes(6);
-        x.edge(0, 0, 1, 7);
-        x.edge(0, 1, 4, 7);
-        x.edge(0, 4, 5, 7);
-        x.edge(0, 0, 2, 7);
-        x.edge(0, 2, 3, 7);
-        x.edge(0, 3, 4, 7);
-        x.edge(0, 1, 5, 3);
-        Check.same("37 taken back", x.flow(0, 5), 10);
+        GristGraph x = ofNodes(8);
+        int[] ways = {7, 1, 1, 2, 2, 0, 7, 4, 4, 5, 5, 2, 1, 6, 6, 3, 3, 0};
+        for (int i = 0; i < ways.length; i += 2) {
+            x.edge(0, ways[i], ways[i + 1], 5);
+        }
+        Check.same("37 taken back", x.flow(7, 0), 10);
+        Check.same("37 from the first one", x.flow(0, 7), 0);
+        x.edge(0, 0, 0, 9);
+        Check.same("37 a loop bears nothing", x.flow(7, 0), 10);
+        Check.same("37 through the first one", x.flow(3, 0), 5);
+        x.edge(0, 0, 4, 3);
+        Check.same("37 on from the first one", x.flow(3, 4), 3);
         GristGraph y = ofNodes(2);
         for (int i = 0; i < 40; i++) {
             y.edge(0, 0, 1, 99);
@@ -112,6 +116,10 @@ public final class FigureTest {
         x.edge(0, 1, 0, 1);
         x.edge(0, 2, 2, 1);
         Check.same("38 pairs", x.density(), 3.0f / 9.0f);
+        x.edge(0, 0, 0, 1);
+        Check.same("38 the first one twice", x.density(), 4.0f / 9.0f);
+        x.dropEdge(4);
+        Check.same("38 as before", x.density(), 3.0f / 9.0f);
         x.view(1, 15);
         x.view(0, 15);
         x.through(0);
@@ -165,6 +173,11 @@ public final class FigureTest {
     }
 
     private static void soundness() {
+        GristGraph y = ofNodes(3);
+        y.edge(0, 0, 1, 1);
+        y.edge(0, 1, 2, 1);
+        y.closure(0);
+        Check.same("41 sound without a change", y.isSound(), true);
         GristGraph x = ofNodes(4);
         x.rule('a', 0);
         x.rule('u', 1);

@@ -312,6 +312,11 @@ public final class GraphTest {
         Check.fails("12 below none", BOUNDS, () -> x.through(-2));
         Check.same("12 unchanged by that", x.through(-1), 0);
         Check.same("12 none", x.through(-1), -1);
+        x.node(0, 0);
+        x.view(15, 15);
+        x.view(14, 15);
+        x.through(3);
+        Check.same("12 the fourth", x.nodes(), 0);
     }
 
     private static void doingsGoPastViews() {

@@ -20,6 +20,7 @@ public final class PatternTest {
         leastNumbers();
         directions();
         oneMatchHoweverParted();
+        twoStepsAtOnce();
         edgesAndNodesOnce();
         loops();
         endsOfMatches();
@@ -175,6 +176,21 @@ public final class PatternTest {
         typed(x, 1, 'f', 0, 1);
         typed(x, 1, 'b', 0, 1);
         Check.same("15 a loop once", x.matches('e', 0, -1), 2);
+    }
+
+    /** Behind one edge both the first step and the second one go on. */
+    private static void twoStepsAtOnce() {
+        GristGraph x = ofNodes(4);
+        x.edge(0, 0, 1, 1);
+        x.edge(0, 1, 2, 1);
+        x.edge(1, 1, 3, 1);
+        x.edge(1, 2, 3, 1);
+        x.edge(0, 3, 0, 1);
+        typed(x, 0, 'f', 1, 2);
+        typed(x, 1, 'f', 1, 1);
+        Check.same("15 both", x.matches('e', 0, -1), 2);
+        Check.same("18 the longer one first", x.matchAt('e', 0, 0, 2), 3);
+        Check.same("18 then the shorter one", x.matchAt('e', 0, 1, 1), 2);
     }
 
     private static void edgesAndNodesOnce() {

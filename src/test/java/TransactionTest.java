@@ -109,9 +109,16 @@ public final class TransactionTest {
         GristGraph y = line();
         y.begin();
         y.begin();
+        y.use(0);
+        y.set(0, 60);
         y.use(1);
-        y.commit(0);
+        y.set(1, 61);
+        y.dropEdge(2);
+        Check.same("32 the one ahead", y.commit(0), 'c');
         Check.same("32 another one is still used", y.use(-1), 1);
+        Check.same("32 its doings are done", y.ofNode(0, 'v'), 60);
+        Check.same("32 those of the other one are not", y.ofNode(1, 'v'), 1);
+        Check.same("32 nor any of them", y.edges(), 3);
     }
 
     private static void givenUp() {
@@ -202,6 +209,22 @@ public final class TransactionTest {
                 crossing(x -> x.dropNode(3), x -> x.edge(1, 3, 0, 1)), 'w');
         Check.same("32 dropped, edge to it",
                 crossing(x -> x.dropNode(3), x -> x.edge(1, 0, 3, 1)), 'w');
+        Check.same("32 the first of two edges", crossing(x -> {
+            x.edge(1, 0, 3, 1);
+            x.edge(1, 1, 2, 1);
+        }, x -> x.dropNode(3)), 'w');
+        Check.same("32 the first of two dropped ones", crossing(x -> {
+            x.dropNode(3);
+            x.dropNode(0);
+        }, x -> x.edge(1, 2, 3, 1)), 'w');
+        Check.same("32 dropped by the first of two", crossing(x -> x.edge(1, 0, 3, 1), x -> {
+            x.dropNode(3);
+            x.dropNode(2);
+        }), 'w');
+        Check.same("32 made by the first of two", crossing(x -> x.dropNode(3), x -> {
+            x.edge(1, 0, 3, 1);
+            x.edge(1, 0, 1, 1);
+        }), 'w');
         Check.same("32 dropped, edge that is gone again", crossing(x -> x.dropNode(3), x -> {
             x.edge(1, 0, 3, 1);
             x.dropEdge(3);
@@ -547,6 +570,13 @@ public final class TransactionTest {
         told("all lost with its node", x, 0, 0, 4);
         x.edge(0, 1, 3, 1);
         told("none any more", x, 0, 0, 4);
+        GristGraph y = new GristGraph();
+        y.node(0, 0);
+        y.watch('n', 0);
+        y.node(0, 0);
+        told("nothing by another node", y, 0, 0, 0);
+        y.dropNode(0);
+        told("the empty row, without steps", y, 0, 0, 1);
     }
 
     private static void watchesBeyond3000() {
