@@ -1,5 +1,15 @@
+import java.util.NoSuchElementException;
+
 /** Compares answers with those that are due, and ends a test with 1 if one was another. */
 final class Check {
+    static final Class<IllegalArgumentException> ILLEGAL = IllegalArgumentException.class;
+    static final Class<IllegalStateException> STATE = IllegalStateException.class;
+    static final Class<IndexOutOfBoundsException> BOUNDS = IndexOutOfBoundsException.class;
+    static final Class<NoSuchElementException> NO_SUCH = NoSuchElementException.class;
+    static final Class<ArithmeticException> ARITHMETIC = ArithmeticException.class;
+    static final Class<UnsupportedOperationException> REFUSED =
+            UnsupportedOperationException.class;
+
     private static int wrong = 0;
     private static int done = 0;
 
@@ -34,6 +44,17 @@ final class Check {
         }
         wrong++;
         System.out.println(what + " gave " + got + ", due is " + due.getSimpleName());
+    }
+
+    /** The call has to answer, whatever it is. */
+    static void passes(String what, Call call) {
+        done++;
+        try {
+            call.make();
+        } catch (RuntimeException e) {
+            wrong++;
+            System.out.println(what + " gave " + e + ", due is an answer");
+        }
     }
 
     static void end() {

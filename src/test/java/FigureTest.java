@@ -1,3 +1,4 @@
+import java.math.BigInteger;
 import java.util.NoSuchElementException;
 
 /** Promises 36 to 41: costs, flows and figures. */
@@ -12,10 +13,13 @@ public final class FigureTest {
     public static void main(String[] args) {
         costs();
         flows();
+        flowsByTheLeast();
         flowsAgainstTheirWay();
         densities();
         meanWeights();
+        greatestMeans();
         checksums();
+        checksumsThatWrap();
         soundness();
         allInTransactions();
         Check.end();
@@ -86,6 +90,22 @@ public final class FigureTest {
         Check.same("37 in the view", x.flow(0, 2), 5);
     }
 
+    /** "each as much as its weight": the narrowest edge tells, wherever it is on the way. */
+    private static void flowsByTheLeast() {
+        int[][] ways = {{1, 99, 99}, {99, 1, 99}, {99, 99, 1}, {7, 8, 9}, {9, 7, 8}, {8, 9, 7}};
+        for (int[] way : ways) {
+            GristGraph x = ofNodes(4);
+            for (int i = 0; i < 3; i++) {
+                x.edge(i, i, i + 1, way[i]);
+            }
+            int least = Math.min(way[0], Math.min(way[1], way[2]));
+            Check.same("37 by the narrowest", x.flow(0, 3), least);
+            Check.same("37 not against them", x.flow(3, 0), 0);
+            x.edge(0, 0, 3, 1);
+            Check.same("37 beside it", x.flow(0, 3), least + 1);
+        }
+    }
+
     /** The greedy path through the middle has to be taken back. */
     private static void flowsAgainstTheirWay() {
         GristGraph x = ofNodes(8);
@@ -141,6 +161,53 @@ public final class FigureTest {
         Check.same("39 through a view", x.meanWeight(), 1.0);
         x.through(1);
         Check.fails("39 none in the view", ARITHMETIC, () -> x.meanWeight());
+    }
+
+    private static void greatestMeans() {
+        GristGraph x = ofNodes(14);
+        for (int i = 0; i < 39; i++) {
+            x.edge(0, i % 14, i / 14, 99);
+        }
+        Check.same("39 of 39 edges", x.meanWeight(), 99.0);
+        Check.same("38 of 39 pairs", x.density(), 39.0f / 196.0f);
+        x.edge(0, 0, 0, 1);
+        Check.same("39 of 40 edges", x.meanWeight(), (39.0 * 99.0 + 1.0) / 40.0);
+        Check.same("38 the same pair again", x.density(), 39.0f / 196.0f);
+        GristGraph y = ofNodes(2);
+        for (int i = 0; i < 4; i++) {
+            y.edge(i, i / 2, i % 2, 1);
+        }
+        Check.same("38 all pairs", y.density(), 1.0f);
+        Check.same("39 the least", y.meanWeight(), 1.0);
+        GristGraph z = ofNodes(1);
+        z.edge(0, 0, 0, 2);
+        Check.same("38 the same twice", z.density(), 1.0f);
+    }
+
+    /** A long has no room for the sum of all: it wraps round. */
+    private static void checksumsThatWrap() {
+        GristGraph x = new GristGraph();
+        BigInteger sum = BigInteger.valueOf(7);
+        for (int i = 0; i < 14; i++) {
+            x.node(0, i % 2 == 0 ? -999 : 999);
+            sum = next(next(sum, i), i % 2 == 0 ? -999 : 999);
+            Check.same("40 of " + (i + 1) + " nodes", x.checksum(), sum.longValue());
+        }
+        for (int i = 0; i < 40; i++) {
+            x.edge(1, 0, i % 14, 1);
+            sum = next(sum, i);
+            Check.same("40 with " + (i + 1) + " edges", x.checksum(), sum.longValue());
+        }
+        for (int i = 0; i < 4; i++) {
+            x.closure(i);
+            sum = next(sum, i == 1 ? 14 : 0);
+            Check.same("40 with " + (i + 1) + " closures", x.checksum(), sum.longValue());
+        }
+        Check.same("40 it is beyond a long", sum.bitLength() > 64, true);
+    }
+
+    private static BigInteger next(BigInteger sum, int number) {
+        return sum.multiply(BigInteger.valueOf(31)).add(BigInteger.valueOf(number));
     }
 
     private static long sum(long... row) {

@@ -221,6 +221,8 @@ public final class GraphTest {
         x.begin();
         x.use(0);
         Check.same("6 rules aside", x.set(0, 4), -999);
+        Check.same("6 before, in the transaction", x.set(0, 5), 4);
+        Check.same("6 back", x.set(0, 4), 5);
         Check.same("6 in the transaction", x.ofNode(0, 'v'), 4);
         Check.same("6 in the shared graph", shared(x).ofNode(0, 'v'), -999);
     }

@@ -16,8 +16,10 @@ public final class PatternTest {
         stepsAreWiped();
         withoutSteps();
         nodesAreAsked();
+        nodesAreAskedOfBoth();
         withoutRepeats();
         leastNumbers();
+        numbersOfRepeats();
         directions();
         oneMatchHoweverParted();
         twoStepsAtOnce();
@@ -28,6 +30,7 @@ public final class PatternTest {
         exceptionsOfQuestions();
         shortestOnes();
         edgesOfMatches();
+        rowsInOrder();
         refusedBeyond3000();
         walksAreOpened();
         walksGoOn();
@@ -108,6 +111,42 @@ public final class PatternTest {
         Check.same("15 of a kind of edges", x.matches('e', 0, -1), 2);
     }
 
+    /** "asks of the node at its end a kind, or -1 for any, and a least value" */
+    private static void nodesAreAskedOfBoth() {
+        GristGraph x = new GristGraph();
+        x.node(0, 0);
+        x.node(2, 9);
+        x.node(2, 10);
+        x.node(3, 11);
+        x.node(2, -999);
+        for (int i = 1; i < 5; i++) {
+            x.edge(i % 2, 0, i, 1);
+        }
+        x.step(-1, 'f', 1, 1, 2, 10);
+        Check.same("15 kind and value", x.matches('e', 0, -1), 1);
+        Check.same("18 that one", x.matchAt('e', 0, 0, 0), 1);
+        x.wipe();
+        x.step(-1, 'f', 1, 1, -1, 10);
+        Check.same("15 any kind", x.matches('e', 0, -1), 2);
+        x.wipe();
+        x.step(-1, 'f', 1, 1, 2, -999);
+        Check.same("15 any value", x.matches('e', 0, -1), 3);
+        x.wipe();
+        x.step(-1, 'f', 1, 1, 2, -998);
+        Check.same("15 but the least", x.matches('e', 0, -1), 2);
+        x.wipe();
+        x.step(0, 'f', 1, 1, 2, 10);
+        Check.same("15 kinds of both", x.matches('e', 0, -1), 1);
+        x.wipe();
+        x.step(1, 'f', 1, 1, 2, 10);
+        Check.same("15 not so", x.matches('e', 0, -1), 0);
+        x.wipe();
+        // Only the node at the end of a step is asked, not those between its repeats.
+        x.edge(0, 1, 3, 1);
+        x.step(-1, 'f', 2, 2, 3, 11);
+        Check.same("15 between repeats none is asked", x.matches('e', 0, -1), 1);
+    }
+
     private static void withoutRepeats() {
         GristGraph x = ofNodes(3);
         x.edge(0, 0, 1, 1);
@@ -144,6 +183,24 @@ public final class PatternTest {
         typed(x, 0, 'f', 4, 4);
         Check.same("15 four repeats", x.matches('n', 0, 4), 1);
         Check.fails("16 none", NO_SUCH, () -> x.shortest('n', 1, -1));
+    }
+
+    /** Each least and greatest number on a line of five edges: the lengths between them match. */
+    private static void numbersOfRepeats() {
+        GristGraph x = ofNodes(6);
+        for (int i = 0; i < 5; i++) {
+            x.edge(0, i, i + 1, 1);
+        }
+        for (int least = 0; least <= 4; least++) {
+            for (int most = least; most <= 4; most++) {
+                x.wipe();
+                typed(x, 0, 'f', least, most);
+                for (int to = 0; to < 6; to++) {
+                    Check.same("15 " + least + " to " + most + " repeats, to " + to,
+                            x.matches('n', 0, to), to >= least && to <= most ? 1 : 0);
+                }
+            }
+        }
     }
 
     private static void directions() {
@@ -205,6 +262,22 @@ public final class PatternTest {
         // By nodes: none, 0, 2.
         Check.same("15 by nodes", x.matches('n', 0, -1), 3);
         Check.same("15 by nodes, that from which it goes", x.matches('n', 0, 0), 1);
+        GristGraph y = ofNodes(4);
+        y.edge(0, 0, 1, 1);
+        y.edge(0, 1, 2, 1);
+        y.edge(0, 2, 1, 1);
+        y.edge(0, 2, 3, 1);
+        y.edge(0, 1, 3, 1);
+        typed(y, 0, 'f', 0, 4);
+        // By edges: none, 0, 01, 012, 0124, 013, 04. By nodes not 012 and 0124.
+        Check.same("15 by edges, over a node again", y.matches('e', 0, -1), 7);
+        Check.same("15 by nodes, not over one again", y.matches('n', 0, -1), 5);
+        Check.same("15 by edges, to a node again", y.matches('e', 0, 1), 2);
+        Check.same("15 by nodes, to it once", y.matches('n', 0, 1), 1);
+        Check.same("15 by nodes, on two ways to one", y.matches('n', 0, 3), 2);
+        y.edge(0, 1, 1, 1);
+        Check.same("15 by edges, a loop on the way", y.matches('e', 0, 1), 5);
+        Check.same("15 by nodes, no loop on the way", y.matches('n', 0, 1), 1);
     }
 
     private static void loops() {
@@ -282,6 +355,22 @@ public final class PatternTest {
         Check.fails("16 without a match", NO_SUCH, () -> x.shortest('e', 3, -1));
         Check.same("17 without a match", x.allShortest('e', 3, -1), 0);
         Check.same("17 back without a match", x.allShortest('n', 0, 0), 0);
+        // Longer ones are ahead of the shortest in order, and behind it.
+        GristGraph y = ofNodes(3);
+        y.edge(0, 0, 1, 1);
+        y.edge(0, 1, 2, 1);
+        y.edge(0, 0, 2, 1);
+        y.edge(0, 0, 1, 1);
+        typed(y, -1, 'f', 1, 4);
+        Check.same("15 three to 2", y.matches('e', 0, 2), 3);
+        Check.same("16 the one in the midst", y.shortest('e', 0, 2), 1);
+        Check.same("17 it alone", y.allShortest('e', 0, 2), 1);
+        y.edge(0, 0, 2, 1);
+        Check.same("17 with a last one", y.allShortest('e', 0, 2), 2);
+        y.dropEdge(2);
+        y.dropEdge(4);
+        Check.same("16 without them", y.shortest('e', 0, 2), 2);
+        Check.same("17 without them", y.allShortest('e', 0, 2), 2);
     }
 
     private static void edgesOfMatches() {
@@ -309,6 +398,26 @@ public final class PatternTest {
         typed(x, 0, 'f', 0, 1);
         Check.fails("18 the empty one is first", NO_SUCH, () -> x.matchAt('e', 0, 0, 0));
         Check.same("18 behind the empty one", x.matchAt('e', 0, 1, 0), 1);
+    }
+
+    /** By the numbers of edges, whether one digit or two, and the shorter row ahead. */
+    private static void rowsInOrder() {
+        GristGraph x = ofNodes(2);
+        for (int i = 0; i < 40; i++) {
+            x.edge(i == 2 || i == 10 || i == 33 || i == 39 ? 1 : 0, i % 2, 1 - i % 2, 1);
+        }
+        typed(x, 1, 'f', 0, 2);
+        int[][] due = {{}, {2}, {2, 33}, {2, 39}, {10}, {10, 33}, {10, 39}};
+        Check.same("15 rows", x.matches('e', 0, -1), due.length);
+        x.open('e', 0);
+        for (int i = 0; i < due.length; i++) {
+            Check.same("20 row " + i, x.goOn(0, 1), 'f');
+            for (int place = 0; place < due[i].length; place++) {
+                Check.same("18 in order", x.matchAt('e', 0, i, place), due[i][place]);
+                Check.same("22 in order", x.foundAt(0, place), due[i][place]);
+            }
+        }
+        Check.same("20 none is left", x.goOn(0, 1), 'e');
     }
 
     /** Rungs of parallel edges from node 0 on: 1 + 9 + 18 + 198 + 2772 rows go up them. */

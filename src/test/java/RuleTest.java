@@ -16,8 +16,11 @@ public final class RuleTest {
         commitsAreOneChange();
         degreesAreTold();
         degreesAreKept();
+        degreesAtTheirBounds();
         rulesAreTold();
         ringsAreRefused();
+        ringsGoOneWay();
+        valuesAreUnlike();
         rulesAreBounded();
         Check.end();
     }
@@ -158,6 +161,45 @@ public final class RuleTest {
         Check.same("41 sound", x.isSound(), true);
     }
 
+    /** One to two edges of kind 1 go out from the one node of kind 1, or come in. */
+    private static void degreesAtTheirBounds() {
+        for (boolean isOut : new boolean[] {true, false}) {
+            GristGraph x = ofNodes(1);
+            x.node(1, 0);
+            int from = isOut ? 1 : 0;
+            Check.fails("28 none is too few", REFUSED, () -> x.degrees(isOut, 1, 1, 1, 2));
+            x.edge(1, from, 1 - from, 1);
+            Check.fails("28 the other way none", REFUSED, () -> x.degrees(!isOut, 1, 1, 1, 2));
+            Check.fails("28 one is too few", REFUSED, () -> x.degrees(isOut, 1, 1, 2, 9));
+            Check.fails("28 one is too many", REFUSED, () -> x.degrees(isOut, 1, 1, 0, 0));
+            Check.same("28 one of one to two", x.degrees(isOut, 1, 1, 1, 2), 0);
+            Check.fails("28 not less", REFUSED, () -> x.dropEdge(0));
+            Check.same("28 two of one to two", x.edge(1, from, 1 - from, 1), 1);
+            Check.fails("28 not more", REFUSED, () -> x.edge(1, from, 1 - from, 1));
+            Check.fails("28 not by a loop", REFUSED, () -> x.edge(1, 1, 1, 1));
+            Check.same("28 more of another kind", x.edge(0, from, 1 - from, 1), 2);
+            Check.same("28 more the other way", x.edge(1, 1 - from, from, 1), 3);
+            Check.same("28 one is enough", x.dropEdge(0), 1);
+            Check.fails("28 another node without", REFUSED, () -> x.node(1, 5));
+            Check.fails("28 not less by a node", REFUSED, () -> x.dropNode(0));
+            Check.same("28 it goes itself", x.dropNode(1), 3);
+            Check.same("28 the other one goes", x.dropNode(0), 0);
+        }
+        GristGraph y = ofNodes(1);
+        for (int i = 0; i < 9; i++) {
+            y.edge(0, 0, 0, 1);
+        }
+        Check.same("28 nine", y.degrees(true, 0, 0, 9, 9), 0);
+        Check.same("28 nine in", y.degrees(false, 0, 0, 9, 9), 1);
+        Check.fails("28 not ten", REFUSED, () -> y.edge(0, 0, 0, 1));
+        Check.fails("28 not eight", REFUSED, () -> y.dropEdge(8));
+        GristGraph z = ofNodes(1);
+        for (int i = 0; i < 10; i++) {
+            z.edge(0, 0, 0, 1);
+        }
+        Check.fails("28 ten are never so", REFUSED, () -> z.degrees(true, 0, 0, 0, 9));
+    }
+
     private static void rulesAreTold() {
         GristGraph x = ofNodes(2);
         x.node(1, 5);
@@ -192,6 +234,54 @@ public final class RuleTest {
         Check.same("29 mixed kinds are no ring", x.rule('a', 1), 1);
         x.edge(2, 0, 0, 1);
         Check.fails("29 a loop is a ring", REFUSED, () -> x.rule('a', 2));
+    }
+
+    /** "edges of a kind make no ring", an edge going "from a node to a node, or the same" */
+    private static void ringsGoOneWay() {
+        GristGraph x = ofNodes(14);
+        x.rule('a', 1);
+        for (int i = 0; i < 13; i++) {
+            x.edge(1, i, i + 1, 1);
+        }
+        Check.fails("29 round all nodes", REFUSED, () -> x.edge(1, 13, 0, 1));
+        Check.same("29 the same way again", x.edge(1, 0, 13, 1), 13);
+        Check.same("29 an edge beside another", x.edge(1, 4, 5, 1), 14);
+        Check.fails("29 there and back", REFUSED, () -> x.edge(1, 5, 4, 1));
+        for (int i = 0; i < 14; i++) {
+            int node = i;
+            Check.fails("29 to the same", REFUSED, () -> x.edge(1, node, node, 1));
+        }
+        Check.same("29 back by another kind", x.edge(2, 13, 0, 1), 15);
+        Check.same("29 to the same by another kind", x.edge(2, 3, 3, 1), 16);
+        x.dropEdge(6);
+        Check.fails("29 back beside the gap", REFUSED, () -> x.edge(1, 13, 7, 1));
+        Check.same("29 over the gap", x.edge(1, 7, 6, 1), 17);
+        x.dropNode(9);
+        Check.fails("29 back where a way is left", REFUSED, () -> x.edge(1, 13, 0, 1));
+        x.dropEdge(13);
+        Check.same("29 back where none is left", x.edge(1, 13, 0, 1), 18);
+        Check.same("41 sound", x.isSound(), true);
+    }
+
+    /** "nodes of a kind have unlike values" */
+    private static void valuesAreUnlike() {
+        GristGraph x = new GristGraph();
+        x.node(2, 999);
+        x.node(2, -999);
+        x.node(1, 999);
+        x.node(1, 999);
+        Check.fails("29 two are like", REFUSED, () -> x.rule('u', 1));
+        Check.same("29 none are like", x.rule('u', 2), 0);
+        Check.fails("2 like the first", REFUSED, () -> x.node(2, 999));
+        Check.fails("2 like the second", REFUSED, () -> x.node(2, -999));
+        Check.same("2 like one of another kind", x.node(3, 999), 4);
+        Check.same("2 one off", x.node(2, 998), 5);
+        Check.fails("6 like another one", REFUSED, () -> x.set(5, 999));
+        Check.same("6 like itself", x.set(5, 998), 998);
+        Check.same("6 one of another kind", x.set(2, -999), 999);
+        x.dropNode(0);
+        Check.same("6 like one that is gone", x.set(5, 999), 998);
+        Check.same("29 by now none are like", x.rule('u', 1), 1);
     }
 
     private static void rulesAreBounded() {

@@ -20,7 +20,10 @@ public final class TransactionTest {
         notCrossed();
         crossedByTransactions();
         newAnswers();
+        answersOfItsBeginning();
         sameAnswers();
+        asManyAnswers();
+        notRemembered();
         answersOfWhatIsNotThere();
         refusedAnswers();
         brokenRules();
@@ -28,6 +31,7 @@ public final class TransactionTest {
         watchesAreKept();
         watchesTell();
         watchesOfValues();
+        watchesOfManySteps();
         watchesOfCommits();
         watchesWithoutNode();
         watchesBeyond3000();
@@ -174,13 +178,38 @@ public final class TransactionTest {
         void on(GristGraph x);
     }
 
-    /** Commits own doings behind those that are done outside of it in the meantime. */
+    /**
+     * Commits own doings behind those that are done in the meantime: at once in the shared graph,
+     * in a transaction begun behind it, or in one begun and done ahead of it and committed behind.
+     */
     private static char crossing(Doing own, Doing other) {
         GristGraph x = lineBegun();
         own.on(x);
         x.use(-1);
         other.on(x);
-        return x.commit(0);
+        char told = x.commit(0);
+        GristGraph y = lineBegun();
+        own.on(y);
+        y.begin();
+        y.use(1);
+        other.on(y);
+        Check.same("32 the other one is first", y.commit(1), 'c');
+        Check.same("32 as by a direct change", y.commit(0), told);
+        GristGraph z = lineBegun();
+        other.on(z);
+        z.begin();
+        z.use(1);
+        own.on(z);
+        Check.same("32 the other one is first, begun first", z.commit(0), 'c');
+        Check.same("32 as by a direct change too", z.commit(1), told);
+        GristGraph w = lineBegun();
+        own.on(w);
+        w.begin();
+        w.use(1);
+        other.on(w);
+        w.abort(1);
+        Check.same("32 not by one given up", w.commit(0), 'c');
+        return told;
     }
 
     private static void crossedByNodes() {
@@ -190,6 +219,17 @@ public final class TransactionTest {
         Check.same("32 set, drop", crossing(x -> x.set(1, 5), x -> x.dropNode(1)), 'w');
         Check.same("32 drop, set", crossing(x -> x.dropNode(1), x -> x.set(1, 5)), 'w');
         Check.same("32 drop, drop", crossing(x -> x.dropNode(1), x -> x.dropNode(1)), 'w');
+        Check.same("32 set like, set like", crossing(x -> x.set(1, 1), x -> x.set(1, 1)), 'w');
+        Check.same("32 set like, drop", crossing(x -> x.set(3, 3), x -> x.dropNode(3)), 'w');
+        Check.same("32 drop, set like", crossing(x -> x.dropNode(0), x -> x.set(0, 0)), 'w');
+        Check.same("32 the first of two", crossing(x -> {
+            x.set(1, 7);
+            x.set(2, 7);
+        }, x -> x.set(1, 8)), 'w');
+        Check.same("32 the first of two others", crossing(x -> x.set(1, 8), x -> {
+            x.set(1, 7);
+            x.set(2, 7);
+        }), 'w');
     }
 
     private static void crossedByEdges() {
@@ -198,6 +238,18 @@ public final class TransactionTest {
         Check.same("32 node, edge", crossing(x -> x.dropNode(1), x -> x.dropEdge(1)), 'w');
         Check.same("32 one edge of two nodes",
                 crossing(x -> x.dropNode(1), x -> x.dropNode(2)), 'w');
+        Check.same("32 a node at its other end",
+                crossing(x -> x.dropEdge(1), x -> x.dropNode(2)), 'w');
+        Check.same("32 its other end, the edge",
+                crossing(x -> x.dropNode(2), x -> x.dropEdge(1)), 'w');
+        Check.same("32 no edge of both",
+                crossing(x -> x.dropNode(0), x -> x.dropEdge(1)), 'c');
+        Check.same("32 nor the other way round",
+                crossing(x -> x.dropEdge(1), x -> x.dropNode(0)), 'c');
+        Check.same("32 an edge that was gone ahead", crossing(x -> {
+            x.dropEdge(0);
+            x.dropNode(0);
+        }, x -> x.dropEdge(0)), 'w');
     }
 
     private static void crossedByEnds() {
@@ -225,6 +277,18 @@ public final class TransactionTest {
             x.edge(1, 0, 3, 1);
             x.edge(1, 0, 1, 1);
         }), 'w');
+        Check.same("32 loop at a dropped one",
+                crossing(x -> x.edge(1, 3, 3, 1), x -> x.dropNode(3)), 'w');
+        Check.same("32 dropped, loop at it",
+                crossing(x -> x.dropNode(3), x -> x.edge(1, 3, 3, 1)), 'w');
+        Check.same("32 edge that is gone again at a dropped one", crossing(x -> {
+            x.edge(1, 0, 3, 1);
+            x.dropEdge(3);
+        }, x -> x.dropNode(3)), 'w');
+        Check.same("32 edge that went with its node at a dropped one", crossing(x -> {
+            x.edge(1, 0, x.node(0, 9), 1);
+            x.dropNode(4);
+        }, x -> x.dropNode(0)), 'w');
         Check.same("32 dropped, edge that is gone again", crossing(x -> x.dropNode(3), x -> {
             x.edge(1, 0, 3, 1);
             x.dropEdge(3);
@@ -241,8 +305,24 @@ public final class TransactionTest {
                 crossing(x -> x.edge(0, 1, 2, 1), x -> x.set(1, 5)), 'c');
         Check.same("32 edges of one node",
                 crossing(x -> x.dropEdge(0), x -> x.dropEdge(1)), 'c');
+        Check.same("32 drop, set at the other end",
+                crossing(x -> x.dropNode(0), x -> x.set(1, 5)), 'c');
+        Check.same("32 set, drop at the other end",
+                crossing(x -> x.set(1, 5), x -> x.dropNode(0)), 'c');
+        Check.same("32 drop, edge at the other end",
+                crossing(x -> x.dropNode(0), x -> x.edge(1, 1, 2, 1)), 'c');
+        Check.same("32 edge, drop at the other end",
+                crossing(x -> x.edge(1, 1, 2, 1), x -> x.dropNode(0)), 'c');
         Check.same("32 far nodes", crossing(x -> x.dropNode(0), x -> x.dropNode(3)), 'c');
         Check.same("32 made in both", crossing(x -> x.node(0, 1), x -> x.node(0, 1)), 'c');
+        Check.same("32 edge, node made", crossing(x -> x.edge(1, 0, 1, 1), x -> x.node(0, 1)), 'c');
+        Check.same("32 drop, node made", crossing(x -> x.dropNode(0), x -> x.node(0, 1)), 'c');
+        Check.same("32 node made, edge", crossing(x -> x.node(0, 1), x -> x.edge(1, 0, 1, 1)), 'c');
+        Check.same("32 node made, drop", crossing(x -> x.node(0, 1), x -> x.dropNode(0)), 'c');
+        Check.same("32 edge, edge dropped",
+                crossing(x -> x.edge(1, 0, 1, 1), x -> x.dropEdge(0)), 'c');
+        Check.same("32 edge dropped, edge",
+                crossing(x -> x.dropEdge(0), x -> x.edge(1, 0, 1, 1)), 'c');
         Check.same("32 nothing own", crossing(x -> x.nodes(), x -> x.dropNode(1)), 'c');
         GristGraph x = line();
         x.set(1, 5);
@@ -308,6 +388,47 @@ public final class TransactionTest {
         Check.same("32 without steps to another one", x.commit(2), 'c');
     }
 
+    /** "with the answers in the graph as it was when it was begun", whenever it is asked */
+    private static void answersOfItsBeginning() {
+        for (int doings = 0; doings < 2; doings++) {
+            GristGraph x = lineBegun();
+            x.step(0, 'f', 1, 1, -1, -999);
+            if (doings > 0) {
+                x.set(3, 50);
+            }
+            x.use(-1);
+            x.edge(0, 0, 2, 1);
+            x.use(0);
+            Check.same("15 asked behind a change", x.matches('e', 0, -1), 1);
+            Check.same("32 another one than at its beginning", x.commit(0), 'p');
+            GristGraph y = lineBegun();
+            y.step(0, 'f', 1, 1, -1, -999);
+            if (doings > 0) {
+                y.edge(0, 0, 2, 1);
+            }
+            y.use(-1);
+            y.edge(0, 0, 2, 1);
+            int made = y.edge(0, 0, 2, 1);
+            y.use(0);
+            Check.same("15 asked in the midst", y.matches('e', 0, -1), 1 + doings);
+            y.use(-1);
+            y.dropEdge(made);
+            y.dropEdge(made - 1);
+            Check.same("32 as at its beginning", y.commit(0), 'c');
+            // A node that is dropped behind its beginning was there at it, and one to which.
+            GristGraph z = lineBegun();
+            z.step(0, 'f', 1, 1, -1, -999);
+            if (doings > 0) {
+                z.set(0, 0);
+            }
+            z.use(-1);
+            z.dropNode(3);
+            z.use(0);
+            Check.same("15 from one that is gone outside", z.matches('e', 2, 3), 1);
+            Check.same("32 it was there", z.commit(0), 'p');
+        }
+    }
+
     private static void sameAnswers() {
         GristGraph x = line();
         x.view(15, 15);
@@ -338,6 +459,87 @@ public final class TransactionTest {
         Check.same("32 new matches from elsewhere", x.commit(1), 'p');
         x.dropEdge(4);
         Check.same("32 the answer of its beginning, come back", x.commit(2), 'c');
+    }
+
+    /** It remembers how many, not which. */
+    private static void asManyAnswers() {
+        GristGraph x = lineBegun();
+        x.step(0, 'f', 1, 1, -1, 1);
+        x.matches('e', 0, -1);
+        x.use(-1);
+        x.dropEdge(0);
+        x.edge(0, 0, 3, 1);
+        Check.same("32 another one, but as many", x.commit(0), 'c');
+        x.begin();
+        x.use(1);
+        x.matches('n', 0, 3);
+        x.use(-1);
+        x.set(3, 1);
+        Check.same("32 its value is as asked still", x.commit(1), 'c');
+        x.begin();
+        x.use(2);
+        x.matches('n', 0, 3);
+        x.use(-1);
+        x.set(3, 0);
+        Check.same("32 its value is not any more", x.commit(2), 'p');
+        GristGraph y = lineBegun();
+        y.step(0, 'f', 1, 1, -1, -999);
+        y.matches('e', 3, -1);
+        y.matches('e', 0, 1);
+        y.matches('e', 2, -1);
+        y.use(-1);
+        y.edge(0, 0, 1, 1);
+        Check.same("32 one of three, in the midst", y.commit(0), 'p');
+        GristGraph z = lineBegun();
+        z.step(0, 'f', 1, 1, -1, -999);
+        z.matches('e', 0, -1);
+        z.dropEdge(0);
+        z.matches('e', 0, -1);
+        z.begin();
+        Check.same("32 by its own doings no other one", z.commit(0), 'c');
+        z.use(1);
+        z.matches('e', 0, -1);
+        Check.same("32 by a commit another one", z.commit(1), 'p');
+    }
+
+    /** "A method that throws an exception changes nothing": it is no question asked. */
+    private static void notRemembered() {
+        GristGraph x = lineBegun();
+        x.step(0, 'f', 1, 1, -1, -999);
+        Check.fails("15 way", ILLEGAL, () -> x.matches('x', 0, -1));
+        Check.fails("15 from", BOUNDS, () -> x.matches('e', 4, -1));
+        Check.fails("15 to", BOUNDS, () -> x.matches('e', 0, 4));
+        x.dropNode(3);
+        Check.fails("15 gone in it", BOUNDS, () -> x.matches('e', 2, 3));
+        Check.fails("15 from one gone in it", BOUNDS, () -> x.matches('e', 3, -1));
+        x.use(-1);
+        x.edge(0, 0, 1, 1);
+        x.edge(0, 2, 1, 1);
+        Check.same("32 by a way, and nodes that are not there", x.commit(0), 'c');
+        GristGraph y = loops(13);
+        y.begin();
+        y.use(0);
+        for (int i = 0; i < 3; i++) {
+            y.edge(0, 0, 0, 1);
+        }
+        Check.fails("15 refused in it", REFUSED, () -> y.matches('e', 0, -1));
+        Check.fails("15 refused in it, to another one", REFUSED, () -> y.matches('e', 0, 1));
+        y.use(-1);
+        y.dropEdge(0);
+        Check.same("32 refused in it, not remembered", y.commit(0), 'c');
+        // The same question is remembered if it is asked again when it is not refused.
+        GristGraph z = loops(13);
+        z.begin();
+        z.use(0);
+        for (int i = 13; i < 16; i++) {
+            z.edge(0, 0, 0, 1);
+        }
+        Check.fails("15 refused in it yet", REFUSED, () -> z.matches('e', 0, -1));
+        z.dropEdge(15);
+        Check.same("15 not any more", z.matches('e', 0, -1), 1 + 15 + 210 + 2730);
+        z.use(-1);
+        z.dropEdge(0);
+        Check.same("32 remembered", z.commit(0), 'p');
     }
 
     private static void answersOfWhatIsNotThere() {
@@ -539,6 +741,37 @@ public final class TransactionTest {
         told("found again", x, 0, 2, 1);
         x.set(1, 600);
         told("nothing new", x, 0, 2, 1);
+    }
+
+    private static void watchesOfManySteps() {
+        GristGraph x = line();
+        x.step(0, 'f', 0, 3, -1, -999);
+        x.step(1, 'b', 1, 1, -1, -999);
+        x.watch('e', 0);
+        x.edge(2, 0, 3, 1);
+        told("of no kind of its steps", x, 0, 0, 0);
+        x.edge(1, 0, 3, 1);
+        told("by the last step", x, 0, 1, 0);
+        x.edge(1, 1, 2, 1);
+        told("by the last step, from the midst", x, 0, 2, 0);
+        x.edge(1, 3, 0, 1);
+        told("by the last step, from the first", x, 0, 3, 0);
+        x.dropEdge(4);
+        told("by the last step, lost", x, 0, 3, 1);
+        // As many steps as there may be.
+        GristGraph y = line();
+        for (int i = 0; i < 4; i++) {
+            y.step(i, 'f', 0, 4, -1, 10 * i - 40);
+        }
+        y.watch('n', 0);
+        y.set(1, 1);
+        told("nothing by a like value", y, 0, 0, 0);
+        y.edge(3, 3, 0, 1);
+        told("nothing by an edge to where it goes from", y, 0, 0, 0);
+        y.edge(3, 1, 3, 1);
+        told("one by the fourth step", y, 0, 1, 0);
+        y.set(2, -11);
+        told("one is not as the fourth asks", y, 0, 1, 1);
     }
 
     private static void watchesOfCommits() {
