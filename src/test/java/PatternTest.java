@@ -278,6 +278,14 @@ public final class PatternTest {
         y.edge(0, 1, 1, 1);
         Check.same("15 by edges, a loop on the way", y.matches('e', 0, 1), 5);
         Check.same("15 by nodes, no loop on the way", y.matches('n', 0, 1), 1);
+        GristGraph z = ofNodes(3);
+        z.edge(0, 1, 1, 1);
+        z.edge(0, 0, 1, 1);
+        z.edge(0, 1, 2, 1);
+        typed(z, 0, 'f', 0, 4);
+        // By edges: none, 1, 10, 102, 12. By nodes not 10 and 102.
+        Check.same("15 by edges, a loop ahead of all", z.matches('e', 0, -1), 5);
+        Check.same("15 by nodes, no loop ahead of all", z.matches('n', 0, -1), 3);
     }
 
     private static void loops() {

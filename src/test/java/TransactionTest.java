@@ -426,6 +426,16 @@ public final class TransactionTest {
             z.use(0);
             Check.same("15 from one that is gone outside", z.matches('e', 2, 3), 1);
             Check.same("32 it was there", z.commit(0), 'p');
+            GristGraph w = lineBegun();
+            w.step(0, 'f', 1, 1, -1, -999);
+            if (doings > 0) {
+                w.set(0, 0);
+            }
+            w.use(-1);
+            w.dropNode(2);
+            w.use(0);
+            Check.same("15 from one that is gone outside, to any", w.matches('e', 2, -1), 1);
+            Check.same("32 from it there was one", w.commit(0), 'p');
         }
     }
 
