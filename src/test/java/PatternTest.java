@@ -1,3 +1,4 @@
+import java.util.Arrays;
 import java.util.NoSuchElementException;
 
 /** Promises 13 to 23: patterns, their matches, and walks. */
@@ -36,6 +37,7 @@ public final class PatternTest {
         walksGoOn();
         walksEnd();
         walksKeepTheirMoment();
+        walksAsAtOnce();
         walksAreNotRefused();
         Check.end();
     }
@@ -581,6 +583,75 @@ public final class PatternTest {
         Check.same("20 its own edge", x.goOn(2, 9), 'f');
         Check.same("22 its own edge", x.foundAt(2, 0), 2);
         Check.same("20 to the end of that", x.goOn(2, 9), 'e');
+    }
+
+    /** "a walk that goes on later gives what one walk would have given at its moment" */
+    private static void walksAsAtOnce() {
+        for (char way : new char[] {'e', 'n'}) {
+            GristGraph x = ofNodes(5);
+            for (int i = 0; i < 14; i++) {
+                x.edge(i % 2, i % 4, (i + 1 + i / 4) % 5, 1);
+            }
+            x.step(-1, 'f', 0, 2, -1, 1);
+            x.step(1, 'f', 1, 1, -1, -999);
+            x.step(0, 'b', 0, 1, -1, -999);
+            int count = x.matches(way, 0, -1);
+            int[][] due = new int[count][];
+            for (int i = 0; i < count; i++) {
+                due[i] = rowOf(x, way, i);
+            }
+            Check.same("15 many rows", count > 10, true);
+            for (int walk = 0; walk < 3; walk++) {
+                x.open(way, 0);
+            }
+            // The second walk goes on as the graph changes, the third one in another rhythm.
+            Check.same("20 at once", wander(x, 0, due, 200, false), 1);
+            Check.same("20 step by step", wander(x, 1, due, 1, true), 1);
+            Check.same("20 by two steps", wander(x, 2, due, 2, true), 1);
+            Check.same("23 as many steps", x.steps(1), x.steps(0));
+            Check.same("23 as many steps, by two", x.steps(2), x.steps(0));
+            Check.same("15 other rows by now", x.matches(way, 0, -1), 0);
+        }
+    }
+
+    private static int[] rowOf(GristGraph x, char way, int index) {
+        int[] row = new int[9];
+        int size = 0;
+        try {
+            while (true) {
+                row[size] = x.matchAt(way, 0, index, size);
+                size++;
+            }
+        } catch (NoSuchElementException e) {
+            return Arrays.copyOf(row, size);
+        }
+    }
+
+    /** Whether the walk finds just the rows that are due, in order, and then comes to its end. */
+    private static int wander(GristGraph x, int walk, int[][] due, int steps, boolean isChanging) {
+        int found = 0;
+        for (int call = 0; call < 90; call++) {
+            char told = x.goOn(walk, steps);
+            if (told == 'e') {
+                return found == due.length && x.found(walk) == found ? 1 : 0;
+            }
+            if (told == 'f') {
+                if (found >= due.length) {
+                    return 0;
+                }
+                for (int place = 0; place < due[found].length; place++) {
+                    Check.same("22 edge", x.foundAt(walk, place), due[found][place]);
+                }
+                found++;
+            }
+            if (isChanging && call < 5 && x.ofNode(0, 'o') > 0) {
+                x.dropEdge(call * 4 % 14);
+                x.set(call % 5, -5);
+                x.wipe();
+                typed(x, 3, 'f', 1, 1);
+            }
+        }
+        return -1;
     }
 
     private static void walksAreNotRefused() {

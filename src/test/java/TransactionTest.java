@@ -12,6 +12,7 @@ public final class TransactionTest {
         begun();
         used();
         committed();
+        doneInOrder();
         givenUp();
         keptApart();
         crossedByNodes();
@@ -123,6 +124,40 @@ public final class TransactionTest {
         Check.same("32 its doings are done", y.ofNode(0, 'v'), 60);
         Check.same("32 those of the other one are not", y.ofNode(1, 'v'), 1);
         Check.same("32 nor any of them", y.edges(), 3);
+    }
+
+    /** "its doings are done in the shared graph, in order" */
+    private static void doneInOrder() {
+        GristGraph x = lineBegun();
+        x.set(0, 5);
+        x.set(0, 6);
+        int node = x.node(2, 7);
+        int edge = x.edge(3, node, 0, 8);
+        x.set(node, 9);
+        x.dropEdge(edge);
+        int other = x.edge(3, 0, node, 10);
+        x.dropNode(1);
+        int gone = x.node(2, 11);
+        int with = x.edge(3, gone, node, 12);
+        x.dropNode(gone);
+        x.use(-1);
+        x.set(2, 60);
+        int beside = x.edge(1, 3, 0, 13);
+        Check.same("32 c", x.commit(0), 'c');
+        Check.same("32 the last value", x.ofNode(0, 'v'), 6);
+        Check.same("32 the last value of one that it made", x.ofNode(node, 'v'), 9);
+        Check.same("32 of its kind", x.ofNode(node, 'k'), 2);
+        Check.same("32 nodes", x.nodes(), 4);
+        Check.same("32 edges", x.edges(), 3);
+        Check.fails("32 made and dropped", BOUNDS, () -> x.ofEdge(edge, 'k'));
+        Check.fails("32 a node made and dropped", BOUNDS, () -> x.ofNode(gone, 'k'));
+        Check.fails("32 made and gone with it", BOUNDS, () -> x.ofEdge(with, 'k'));
+        Check.fails("32 dropped", BOUNDS, () -> x.ofNode(1, 'k'));
+        Check.fails("32 dropped with it", BOUNDS, () -> x.ofEdge(1, 'k'));
+        Check.same("32 made again", x.ofEdge(other, 'w'), 10);
+        Check.same("32 what is done beside it stays", x.ofEdge(beside, 'w'), 13);
+        Check.same("32 what is set beside it stays", x.ofNode(2, 'v'), 60);
+        Check.same("32 what it left alone", x.ofEdge(2, 'w'), 1);
     }
 
     private static void givenUp() {
