@@ -15,6 +15,7 @@ public final class FigureTest {
         flows();
         flowsByTheLeast();
         flowsAgainstTheirWay();
+        flowsBesideTheWayBack();
         densities();
         meanWeights();
         greatestMeans();
@@ -125,6 +126,22 @@ public final class FigureTest {
             y.edge(0, 0, 1, 99);
         }
         Check.same("37 the greatest of all", y.flow(0, 1), 3960);
+    }
+
+    /** What flows from 1 to 2 does not take the edge from 2 to 1 away: it bears more by then. */
+    private static void flowsBesideTheWayBack() {
+        GristGraph x = ofNodes(8);
+        x.edge(0, 0, 1, 1);
+        x.edge(0, 1, 2, 9);
+        x.edge(0, 2, 3, 1);
+        Check.same("37 the short way", x.flow(0, 3), 1);
+        int[] way = {0, 4, 5, 2, 1, 6, 7, 3};
+        for (int i = 1; i < way.length; i++) {
+            x.edge(0, way[i - 1], way[i], 40 + i);
+        }
+        Check.same("37 the long way back over it too", x.flow(0, 3), 42);
+        Check.same("37 of both ways", x.flow(2, 1), 44);
+        Check.same("37 of both ways, the other one", x.flow(1, 2), 9);
     }
 
     private static void densities() {

@@ -288,6 +288,19 @@ public final class PatternTest {
         // By edges: none, 1, 10, 102, 12. By nodes not 10 and 102.
         Check.same("15 by edges, a loop ahead of all", z.matches('e', 0, -1), 5);
         Check.same("15 by nodes, no loop ahead of all", z.matches('n', 0, -1), 3);
+        // Round a ring, from wherever it goes.
+        GristGraph w = ofNodes(14);
+        for (int i = 0; i < 14; i++) {
+            w.edge(0, i, (i + 1) % 14, 1);
+            w.edge(0, (i + 1) % 14, i, 1);
+        }
+        typed(w, 0, 'f', 2, 2);
+        for (int i = 0; i < 14; i++) {
+            Check.same("15 by edges, back to " + i, w.matches('e', i, i), 2);
+            Check.same("15 by nodes, not back to " + i, w.matches('n', i, i), 0);
+            Check.same("15 by nodes, on from " + i, w.matches('n', i, -1), 2);
+            Check.same("15 by nodes, on over " + i, w.matches('n', i, (i + 2) % 14), 1);
+        }
     }
 
     private static void loops() {

@@ -201,6 +201,9 @@ public final class SightTest {
             Check.same("26 at place " + place, x.pairs(0), 6);
             Check.same("34 at place " + place, x.watch('e', 0), 0);
             Check.same("34 a node not in the view, at place " + place, x.watch('e', 1), 1);
+            // The transaction breaks two of these rules, and just so it is seen.
+            Check.same("7 seen at place " + place, x.nodes() > 2, true);
+            Check.same("41 at place " + place, x.isSound(), true);
             x.use(-1);
             x.dropEdge(1);
             Check.same("35 lost by it, of place " + place, x.news(0, false), 2);

@@ -24,16 +24,20 @@ public final class TransactionTest {
         answersOfItsBeginning();
         sameAnswers();
         asManyAnswers();
+        answersByTheirWay();
         notRemembered();
         answersOfWhatIsNotThere();
         refusedAnswers();
         brokenRules();
         orderOfLooks();
+        committedFromElsewhere();
         watchesAreKept();
         watchesTell();
         watchesOfValues();
         watchesOfManySteps();
         watchesOfCommits();
+        watchesByTheirWay();
+        watchesBesideQuestions();
         watchesWithoutNode();
         watchesBeyond3000();
         Check.end();
@@ -547,6 +551,43 @@ public final class TransactionTest {
         Check.same("32 by a commit another one", z.commit(1), 'p');
     }
 
+    /** A loop at node 0 is in rows by edges, not by nodes. */
+    private static void answersByTheirWay() {
+        for (int doings = 0; doings < 2; doings++) {
+            GristGraph x = line();
+            x.step(0, 'f', 0, 2, -1, -999);
+            for (int i = 0; i < 2; i++) {
+                x.begin();
+                x.use(i);
+                if (doings > 0) {
+                    x.set(3, 3 + i);
+                }
+            }
+            x.use(0);
+            Check.same("15 by nodes", x.matches('n', 0, -1), 3);
+            x.use(1);
+            Check.same("15 by edges", x.matches('e', 0, -1), 3);
+            x.use(-1);
+            x.edge(0, 0, 0, 1);
+            Check.same("32 as many by nodes", x.commit(0), 'c');
+            Check.same("32 more by edges", x.commit(1), doings > 0 ? 'w' : 'p');
+        }
+        // As many by edges, but one less by nodes.
+        GristGraph y = line();
+        y.edge(0, 0, 0, 1);
+        y.step(0, 'f', 1, 1, -1, -999);
+        for (int i = 0; i < 2; i++) {
+            y.begin();
+            y.use(i);
+            Check.same("15 by its way", y.matches(i == 0 ? 'e' : 'n', 0, -1), 2 - i);
+        }
+        y.use(-1);
+        y.dropEdge(0);
+        y.edge(0, 0, 0, 1);
+        Check.same("32 as many by edges", y.commit(0), 'c');
+        Check.same("32 one less by nodes", y.commit(1), 'p');
+    }
+
     /** "A method that throws an exception changes nothing": it is no question asked. */
     private static void notRemembered() {
         GristGraph x = lineBegun();
@@ -715,6 +756,49 @@ public final class TransactionTest {
         Check.same("32 s", x.commit(2), 's');
     }
 
+    /** Whichever transaction and view are used meanwhile, a commit is of the shared graph. */
+    private static void committedFromElsewhere() {
+        for (int place = 0; place < 4; place++) {
+            GristGraph x = line();
+            x.view(14, 14);
+            x.rule('u', 1);
+            x.closure(0);
+            x.step(0, 'f', 1, 2, -1, -999);
+            x.watch('e', 0);
+            for (int i = 0; i < 3; i++) {
+                x.begin();
+            }
+            x.use(0);
+            x.matches('e', 1, -1);
+            x.edge(0, 0, 2, 1);
+            x.use(1);
+            x.matches('e', 2, -1);
+            x.set(3, 9);
+            x.use(2);
+            x.matches('e', 0, 2);
+            for (int i = 0; i < 3; i++) {
+                x.dropEdge(i);
+            }
+            x.node(1, 5);
+            x.node(1, 5);
+            x.use(place / 2 == 0 ? -1 : 2);
+            x.through(place % 2 == 0 ? -1 : 0);
+            Check.same("32 as many, where it is committed", x.commit(0), 'c');
+            Check.same("32 one, where it is committed", x.commit(1), 'c');
+            told("by commits from elsewhere", x, 0, 2, 0);
+            Check.same("27 came", x.changes(0, true), 0);
+            Check.same("27 went", x.changes(0, false), 0);
+            Check.same("26 pairs", x.pairs(0), 6);
+            Check.same("41 sound", x.isSound(), true);
+            Check.same("31 is used still", x.use(-1), place / 2 == 0 ? -1 : 2);
+            Check.same("12 is used still", x.through(-1), place % 2 == 0 ? -1 : 0);
+            Check.same("8 edges", x.edges(), 4);
+            x.use(place / 2 == 0 ? -1 : 2);
+            x.through(place % 2 == 0 ? -1 : 0);
+            Check.same("32 one more", x.commit(2), 'p');
+        }
+    }
+
     private static void watchesAreKept() {
         GristGraph x = line();
         Check.fails("34 no node", BOUNDS, () -> x.watch('x', 4));
@@ -838,6 +922,60 @@ public final class TransactionTest {
         y.watch('e', 0);
         y.set(2, 0);
         told("a row parted another way is not lost", y, 0, 0, 1);
+    }
+
+    /** Nodes 0 and 1 go round by edges, and end at once by nodes. */
+    private static void watchesByTheirWay() {
+        GristGraph x = line();
+        x.edge(0, 1, 0, 1);
+        x.edge(0, 0, 0, 1);
+        x.step(0, 'f', 0, 4, -1, -999);
+        int byEdges = x.matches('e', 0, -1);
+        Check.same("15 by edges are more", byEdges > x.matches('n', 0, -1), true);
+        x.watch('n', 0);
+        x.watch('e', 0);
+        x.edge(0, 1, 1, 1);
+        int more = x.matches('e', 0, -1) - byEdges;
+        told("by nodes, no loop", x, 0, 0, 0);
+        told("by edges, a loop", x, 1, more, 0);
+        x.dropNode(0);
+        told("all by nodes", x, 0, 0, 4);
+        told("all by edges", x, 1, more, byEdges + more);
+        // More than 3000 rows by edges, one by nodes.
+        GristGraph y = loops(16);
+        Check.fails("34 refused by edges", REFUSED, () -> y.watch('e', 0));
+        Check.same("34 not by nodes", y.watch('n', 0), 0);
+        y.edge(0, 0, 1, 1);
+        told("one by nodes", y, 0, 1, 0);
+        y.edge(0, 0, 0, 1);
+        told("one by nodes still", y, 0, 1, 0);
+    }
+
+    /** What a watch looks at behind a change is nothing to the next question, nor otherwise. */
+    private static void watchesBesideQuestions() {
+        GristGraph x = line();
+        x.step(0, 'f', 1, 1, -1, -999);
+        x.step(0, 'f', 0, 1, -1, -999);
+        x.step(0, 'f', 0, 1, -1, -999);
+        x.watch('e', 0);
+        x.wipe();
+        x.step(0, 'f', 1, 1, -1, -999);
+        x.watch('n', 1);
+        x.edge(0, 1, 3, 1);
+        told("by three steps", x, 0, 1, 0);
+        told("by one step", x, 1, 1, 0);
+        Check.same("15 by one step", x.matches('e', 1, -1), 2);
+        x.wipe();
+        Check.same("15 by none", x.matches('e', 1, -1), 1);
+        x.step(0, 'f', 1, 1, -1, -999);
+        x.step(0, 'b', 1, 1, -1, -999);
+        x.dropEdge(2);
+        told("three steps shorter", x, 0, 1, 1);
+        told("one step still", x, 1, 1, 0);
+        Check.same("15 by two steps, forth and back", x.matches('e', 1, -1), 0);
+        x.edge(0, 2, 3, 1);
+        Check.same("15 by two steps", x.matches('n', 1, 2), 1);
+        told("three steps again", x, 0, 2, 1);
     }
 
     private static void watchesWithoutNode() {
